@@ -1323,8 +1323,7 @@ public final class FrameWalk {
                 push(given);
             }
             // A frame that called stays at the place of its call till then.
-            now.read(code, latest.body.first + latest.place);
-            goOn();
+            latest.place += Op.sizeOf(Op.CALL);
         }
 
         private void trap(int kind) {

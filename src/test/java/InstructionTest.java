@@ -102,6 +102,7 @@ public final class InstructionTest {
             }
         }
         // 0 167 to 5; 3 4; 4 172; 5 167 to 3.
+        Check.due("a jump is made", 5, result(verified(0, 0, 1, true, 167, 0, 5, 4, 172, 8, 172)));
         Check.due("jumps there and back", 1, result(verified(0, 0, 1, true, 167, 0, 5, 4, 172, 167, 255, 254)));
     }
 

@@ -206,6 +206,20 @@ public final class VerifyTest {
         before.method(1, 0, 0, 0, false);
         before.method(3, 0, 0, 0, false);
         refused("a jump into the method before", 2, before);
+        int[] full = new int[200];
+        java.util.Arrays.fill(full, 177);
+        full[0] = 167;
+        full[1] = 0;
+        full[2] = 199;
+        right("to the last of 200 bytes", 2, Check.one(0, 0, 0, false, full));
+        full[2] = 200;
+        noShape("behind the last of 200 bytes", Check.one(0, 0, 0, false, full));
+        FrameWalk again = Check.one(0, 0, 0, false, 177, 177, 177, 177, 177);
+        again.verify();
+        again.clear();
+        Check.feed(again, 177, 167, 0, 3);
+        again.method(4, 0, 0, 0, false);
+        noShape("to where an instruction was before clear", again);
         noShape("a far jump", Check.one(0, 0, 0, false, 167, 127, 255, 177));
         noShape("a far jump back", Check.one(0, 0, 0, false, 167, 128, 0, 177));
     }
