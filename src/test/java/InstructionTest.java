@@ -57,8 +57,8 @@ public final class InstructionTest {
 
     private static void calculations() {
         for (int o : new int[] {96, 100, 104, 108, 112, 120, 122, 124, 126, 128, 130}) {
-            FrameWalk x = verified(2, 2, 2, true, 26, 27, o, 172);
             for (int a : INTS) {
+                FrameWalk x = verified(2, 2, 2, true, 26, 27, o, 172);
                 for (int b : INTS) {
                     Check.due(a + " " + o + " " + b, due(o, a, b), result(x, a, b));
                 }
@@ -92,8 +92,8 @@ public final class InstructionTest {
         for (int r = 0; r < 6; r++) {
             // 0 26; 1 to 6; 4 3; 5 172; 6 4; 7 172.
             FrameWalk toZero = verified(1, 1, 1, true, 26, 153 + r, 0, 5, 3, 172, 4, 172);
-            FrameWalk two = verified(2, 2, 2, true, 26, 27, 159 + r, 0, 5, 3, 172, 4, 172);
             for (int a : INTS) {
+                FrameWalk two = verified(2, 2, 2, true, 26, 27, 159 + r, 0, 5, 3, 172, 4, 172);
                 Check.due("operation " + (153 + r) + " of " + a, isSo(r, a, 0) ? 1 : 0, result(toZero, a));
                 for (int b : INTS) {
                     Check.due("operation " + (159 + r) + " of " + a + ", " + b, isSo(r, a, b) ? 1 : 0,
@@ -170,8 +170,8 @@ public final class InstructionTest {
                 42, 4, 46, 16, 10, 104, 42, 3, 46, 96, 172);
         Check.due("an array", 98, result(array));
         Check.due("its cells", 8, array.heap(1));
-        FrameWalk length = verified(1, 1, 1, true, 26, 188, 10, 190, 172);
         for (int n = 0; n < 120; n++) {
+            FrameWalk length = verified(1, 1, 1, true, 26, 188, 10, 190, 172);
             Check.due("length " + n, n, result(length, n));
             Check.due("heap of length " + n, n + 1, length.heap(-1));
         }

@@ -1,10 +1,14 @@
 import java.util.ArrayList;
 import java.util.List;
 import java.util.Random;
+import java.util.concurrent.Callable;
+import java.util.function.Function;
 
 /** Generated programs and calls, answered by FrameWalk as by Model. */
 public final class ModelTest {
     private static final int PROGRAMS = 30000;
+    // The document promises no more of one object.
+    private static final int MOST_CALLS = 512;
 
     private static final int[] EASY = {
         1, 2, 3, 4, 5, 6, 7, 8, 16, 17, 21, 25, 26, 27, 28, 42, 43, 44, 46, 54, 58, 59, 60, 61, 75, 76, 77, 79, 87,
@@ -13,7 +17,9 @@ public final class ModelTest {
     };
 
     private final Random random;
-    private final FrameWalk x = new FrameWalk();
+    private FrameWalk x = new FrameWalk();
+    private int calls;
+    private final List<Function<FrameWalk, Object>> told = new ArrayList<>();
     private Model model = new Model();
     private final String name;
     private int verifiedCount;
@@ -38,7 +44,7 @@ public final class ModelTest {
             test.run();
             verified += test.verifiedCount;
             caught += test.model.caughtCount();
-            states[test.x.state()]++;
+            states[test.model.state()]++;
         }
         System.out.println(verified + " verified; " + caught + " caught; states at the end " + java.util.Arrays.toString(states));
         Check.due("enough programs are verified", true, verified > PROGRAMS / 10);
@@ -59,14 +65,43 @@ public final class ModelTest {
         }
     }
 
-    private void same(String call, java.util.concurrent.Callable<Object> due, java.util.concurrent.Callable<Object> got) {
-        Check.due(name + ": " + call, Check.answer(due), got);
+    /** A call that changes nothing. */
+    private void same(String call, Callable<Object> due, Function<FrameWalk, Object> got) {
+        if (calls >= MOST_CALLS) {
+            makeAnother();
+        }
+        calls++;
+        Check.due(name + ": " + call, Check.answer(due), () -> got.apply(x));
+    }
+
+    /** A call that another object must be told too, to become like this one. */
+    private void sameTold(String call, Callable<Object> due, Function<FrameWalk, Object> got) {
+        same(call, due, got);
+        told.add(got);
+    }
+
+    private void makeAnother() {
+        x = new FrameWalk();
+        calls = told.size();
+        for (Function<FrameWalk, Object> call : told) {
+            Check.answer(() -> call.apply(x));
+        }
+    }
+
+    private void makeNew() {
+        told.clear();
+        // Model has no clear: a new object is what everything is like at first.
+        model = new Model();
+        if (calls > MOST_CALLS / 2) {
+            makeAnother();
+        } else {
+            calls++;
+            x.clear();
+        }
     }
 
     private void build() {
-        x.clear();
-        // Model has no clear: a new object is what everything is like at first.
-        model = new Model();
+        makeNew();
         int count = 1 + random.nextInt(3);
         lengths = new int[count];
         arguments = new int[count];
@@ -84,19 +119,19 @@ public final class ModelTest {
                     ? generate(starts, locals, givesInt[m], count)
                     : typed(starts, arguments[m], locals, height, givesInt, m);
             for (int b : code) {
-                same("feed", () -> model.feed(b), () -> x.feed(b));
+                sameTold("feed", () -> model.feed(b), y -> y.feed(b));
             }
             int args = arguments[m];
             boolean gives = givesInt[m];
             lengths[m] = code.length;
-            same("method", () -> model.method(code.length, args, locals, height, gives),
-                    () -> x.method(code.length, args, locals, height, gives));
+            sameTold("method", () -> model.method(code.length, args, locals, height, gives),
+                    y -> y.method(code.length, args, locals, height, gives));
             handlers(starts, code.length);
         }
-        same("fault before", () -> model.fault(), () -> x.fault());
-        same("verify", () -> model.verify(), () -> x.verify());
-        same("fault", () -> model.fault(), () -> x.fault());
-        if (x.fault() == -1) {
+        same("fault before", () -> model.fault(), y -> y.fault());
+        sameTold("verify", () -> model.verify(), y -> y.verify());
+        same("fault", () -> model.fault(), y -> y.fault());
+        if (model.fault() == -1) {
             verifiedCount++;
         }
     }
@@ -110,7 +145,7 @@ public final class ModelTest {
                     ? withOneInt.get(random.nextInt(withOneInt.size()))
                     : starts.get(random.nextInt(starts.size()));
             int kind = random.nextInt(5);
-            same("handler", () -> model.handler(from, to, target, kind), () -> x.handler(from, to, target, kind));
+            sameTold("handler", () -> model.handler(from, to, target, kind), y -> y.handler(from, to, target, kind));
         }
     }
 
@@ -335,7 +370,7 @@ public final class ModelTest {
                     int at = place;
                     int which = k;
                     same("type(" + m + ", " + place + ", " + k + ")", () -> model.type(method, at, which),
-                            () -> x.type(method, at, which));
+                            y -> y.type(method, at, which));
                 }
             }
         }
@@ -346,41 +381,41 @@ public final class ModelTest {
         int many = random.nextInt(20) == 0 ? random.nextInt(6) : arguments[m];
         for (int i = 0; i < many; i++) {
             int v = random.nextInt(3) == 0 ? random.nextInt() : random.nextInt(12) - 2;
-            same("argument", () -> model.argument(v), () -> x.argument(v));
+            sameTold("argument", () -> model.argument(v), y -> y.argument(v));
         }
-        same("start(" + m + ")", () -> model.start(m), () -> x.start(m));
+        sameTold("start(" + m + ")", () -> model.start(m), y -> y.start(m));
         for (int i = 0; i < 12; i++) {
             int n = random.nextInt(4) == 0 ? random.nextInt(101) : random.nextInt(5);
-            same("run(" + n + ")", () -> model.run(n), () -> x.run(n));
+            sameTold("run(" + n + ")", () -> model.run(n), y -> y.run(n));
             look();
-            if (x.state() != 1) {
+            if (model.state() != 1) {
                 break;
             }
         }
     }
 
     private void look() {
-        same("state", () -> model.state(), () -> x.state());
-        same("result", () -> model.result(), () -> x.result());
-        same("depth", () -> model.depth(), () -> x.depth());
+        same("state", () -> model.state(), y -> y.state());
+        same("result", () -> model.result(), y -> y.result());
+        same("depth", () -> model.depth(), y -> y.depth());
         for (int k = -1; k < 4; k++) {
             int at = k;
-            same("frame method", () -> model.frame(at, 0), () -> x.frame(at, 0));
-            same("frame place", () -> model.frame(at, 1), () -> x.frame(at, 1));
-            same("frame stack", () -> model.frame(at, 2), () -> x.frame(at, 2));
+            same("frame method", () -> model.frame(at, 0), y -> y.frame(at, 0));
+            same("frame place", () -> model.frame(at, 1), y -> y.frame(at, 1));
+            same("frame stack", () -> model.frame(at, 2), y -> y.frame(at, 2));
         }
         for (int k = -1; k < 6; k++) {
             int at = k;
-            same("local " + k, () -> model.local(at), () -> x.local(at));
-            same("stack " + k, () -> model.stack(at), () -> x.stack(at));
+            same("local " + k, () -> model.local(at), y -> y.local(at));
+            same("stack " + k, () -> model.stack(at), y -> y.stack(at));
         }
         for (int k = 0; k < 8; k++) {
             int at = k;
-            same("static " + k, () -> model.getStatic(at), () -> x.getStatic(at));
+            same("static " + k, () -> model.getStatic(at), y -> y.getStatic(at));
         }
         for (int k = -1; k < 12; k++) {
             int at = k;
-            same("heap " + k, () -> model.heap(at), () -> x.heap(at));
+            same("heap " + k, () -> model.heap(at), y -> y.heap(at));
         }
     }
 }
