@@ -68,7 +68,10 @@ public final class FlowEdgeTest {
         return x;
     }
 
-    /** Locals 4 .. 7 become INTs; at 12 a long way begins; three bytes; then eight ways back: way n makes local n a REF. */
+    /**
+     * Locals 4 .. 7 become INTs; at 12 a long way begins, with the three bytes at its end; then eight ways back to 12:
+     * way n makes local n a REF.
+     */
     private static FrameWalk loops(int... three) {
         FrameWalk x = Check.fed(3, 54, 4, 3, 54, 5, 3, 54, 6, 3, 54, 7, 3);
         for (int i = 0; i < 78; i++) {
@@ -323,6 +326,13 @@ public final class FlowEdgeTest {
                 Check.due("from " + from + " to " + to + ": local", isReached ? isNone ? 0 : 1 : -1, x.type(0, 8, 0));
             }
         }
+        // Local 0 is an INT at 0, changes at 1, is a REF at 2: what comes tells which of them are covered.
+        int[][] rows = {{0, 1, 1}, {0, 2, 0}, {0, 5, 0}, {1, 2, 0}, {1, 5, 0}, {2, 5, 2}, {2, 6, 2}};
+        for (int[] r : rows) {
+            FrameWalk x = handled(Check.one(1, 1, 1, false, 1, 75, 167, 0, 0, 87, 177), r[0], r[1], 5);
+            Check.due("a change, from " + r[0] + " to " + r[1], "5", Check.verdict(x));
+            Check.due("a change, from " + r[0] + " to " + r[1] + ": local", r[2], x.type(0, 5, 0));
+        }
         FrameWalk four = setsLocal();
         for (int h = 0; h < 3; h++) {
             four.handler(8, 9, 8, 0);
@@ -365,7 +375,8 @@ public final class FlowEdgeTest {
                 Check.verdict(handled(Check.one(0, 0, 3, false, 1, 1, 1, 167, 0, 0, 87, 87, 177), 3, 6, 6)));
         Check.due("it is no REF", NO_FLOW,
                 Check.verdict(handled(Check.one(0, 0, 3, false, 1, 1, 1, 167, 0, 0, 190, 177), 3, 6, 6)));
-        Check.due("a target that has an INT", "3", Check.verdict(handled(Check.one(0, 0, 1, false, 3, 87, 177), 0, 1, 1)));
+        Check.due("a target that has an INT", "3",
+                Check.verdict(handled(Check.one(0, 0, 1, false, 3, 87, 177), 0, 1, 1)));
         Check.due("a target that has a REF", NO_FLOW,
                 Check.verdict(handled(Check.one(0, 0, 1, false, 1, 87, 177), 0, 1, 1)));
         Check.due("a target that has none", NO_FLOW,

@@ -4,8 +4,8 @@ public final class FramesEdgeTest {
     private static final int MAX = Integer.MAX_VALUE;
 
     public static void main(String[] args) {
-        Check.sentence("One stack of 80 cells: a frame takes as many as the method's locals and HEIGHT together, and one more",
-                FramesEdgeTest::eightyCells);
+        Check.sentence("One stack of 80 cells: a frame takes as many as the method's locals and HEIGHT together, "
+                + "and one more", FramesEdgeTest::eightyCells);
         Check.sentence("the heap has 120", FramesEdgeTest::heapCells);
         Check.sentence("an array takes its length and 1 more", FramesEdgeTest::arrayCells);
         Check.sentence("IDLE (0), RUNNING (1), DONE (2)", FramesEdgeTest::untrapped);
@@ -455,7 +455,7 @@ public final class FramesEdgeTest {
         x.start(1);
         x.run(1);
         Check.due("method 1 as the first", 2, x.state());
-        // A method that calls itself is done when its first frame ends: 0 26; 1 153 to 11; 4 132 0 -1; 7 26; 8 184 0; 11 177.
+        // One that calls itself, done when its first frame ends: 0 26; 1 153 to 11; 4 132 0 -1; 7 26; 8 184 0; 11 177.
         FrameWalk itself = Check.one(1, 1, 1, false, 26, 153, 0, 10, 132, 0, 255, 26, 184, 0, 0, 177);
         itself.verify();
         Check.start(itself, 0, 2);

@@ -16,8 +16,10 @@ public final class InstructionEdgeTest {
         Check.sentence("96 +, 100 -, 104 *, 108 /, 112 %, .. 126 and, 128 or, 130 xor [I I > I]. 116 - [I > I]",
                 InstructionEdgeTest::calculations);
         Check.sentence("1 NULL [> R]. 2 .. 8: -1 .. 5 [> I]", InstructionEdgeTest::smallPushes);
-        Check.sentence("(n 0 .. 3 in the short ones.) 21 n, or 26 + n; 54 n, or 59 + n", InstructionEdgeTest::shortInts);
-        Check.sentence("(n 0 .. 3 in the short ones.) 25 n, or 42 + n; 58 n, or 75 + n", InstructionEdgeTest::shortRefs);
+        Check.sentence("(n 0 .. 3 in the short ones.) 21 n, or 26 + n; 54 n, or 59 + n",
+                InstructionEdgeTest::shortInts);
+        Check.sentence("(n 0 .. 3 in the short ones.) 25 n, or 42 + n; 58 n, or 75 + n",
+                InstructionEdgeTest::shortRefs);
         Check.sentence("46 ALOAD [R I > I]. 79 ASTORE [R I I >]", InstructionEdgeTest::arrayCells);
         Check.sentence("87 POP [any >]. 89 DUP [any > it, it]. 95 SWAP", InstructionEdgeTest::moves);
         Check.sentence("132 n b: int local n grows by b", InstructionEdgeTest::grows);
@@ -27,8 +29,8 @@ public final class InstructionEdgeTest {
         Check.sentence("198, 199 w: jump if it is null, if not", InstructionEdgeTest::nulls);
         Check.sentence("172 gives [I >], 177 gives nothing: the method ends", InstructionEdgeTest::gives);
         Check.sentence("178 w: static w [> I]. 179 w [I >]", InstructionEdgeTest::statics);
-        Check.sentence("184 w: method w is called [as many I as its arguments, the last on top > I, if it gives an int]",
-                InstructionEdgeTest::calls);
+        Check.sentence("184 w: method w is called [as many I as its arguments, the last on top > I, "
+                + "if it gives an int]", InstructionEdgeTest::calls);
         Check.sentence("188 n: a new array of zeros, n must be 10", InstructionEdgeTest::newArrays);
         Check.sentence("190 its length", InstructionEdgeTest::lengths);
         Check.sentence("Others are no operations", InstructionEdgeTest::others);
@@ -108,7 +110,9 @@ public final class InstructionEdgeTest {
     }
 
     private static void order() {
-        int[][] rows = {{100, 9, 8, 1}, {108, 7, 1, 7}, {112, 9, 7, 2}, {120, 9, 6, 576}, {122, 5, 1, 2}, {124, 5, 1, 2}};
+        int[][] rows = {
+            {100, 9, 8, 1}, {108, 7, 1, 7}, {112, 9, 7, 2}, {120, 9, 6, 576}, {122, 5, 1, 2}, {124, 5, 1, 2},
+        };
         for (int[] r : rows) {
             Check.due(r[0] + " of " + r[1] + " and " + r[2], "gives " + r[3],
                     gives(2, code(26, 27, r[0], 172), r[1], r[2]));
@@ -117,9 +121,9 @@ public final class InstructionEdgeTest {
 
     private static void calculations() {
         int[][] rows = {
-            {96, 12, 10, 22}, {100, 12, 10, 2}, {104, 12, 10, 120}, {108, 12, 10, 1}, {112, 12, 10, 2}, {126, 12, 10, 8},
-            {128, 12, 10, 14}, {130, 12, 10, 6}, {126, -1, MIN, MIN}, {128, MAX, MIN, -1}, {130, -1, -1, 0},
-            {108, 0, -5, 0}, {112, 0, -5, 0}, {104, 0, MIN, 0}, {96, MIN, MAX, -1}, {100, MIN, MIN, 0},
+            {96, 12, 10, 22}, {100, 12, 10, 2}, {104, 12, 10, 120}, {108, 12, 10, 1}, {112, 12, 10, 2},
+            {126, 12, 10, 8}, {128, 12, 10, 14}, {130, 12, 10, 6}, {126, -1, MIN, MIN}, {128, MAX, MIN, -1},
+            {130, -1, -1, 0}, {108, 0, -5, 0}, {112, 0, -5, 0}, {104, 0, MIN, 0}, {96, MIN, MAX, -1}, {100, MIN, MIN, 0},
         };
         for (int[] r : rows) {
             Check.due(r[0] + " of " + r[1] + " and " + r[2], "gives " + r[3],

@@ -35,7 +35,8 @@ public final class InstructionTest {
         }
         for (int b = 0; b < 256; b++) {
             Check.due("16 " + b, (int) (byte) b, result(verified(0, 0, 1, true, 16, b, 172)));
-            Check.due("17 " + b + " 200", (int) (short) (b << 8 | 200), result(verified(0, 0, 1, true, 17, b, 200, 172)));
+            Check.due("17 " + b + " 200", (int) (short) (b << 8 | 200),
+                    result(verified(0, 0, 1, true, 17, b, 200, 172)));
         }
     }
 

@@ -1,4 +1,5 @@
 import java.util.ArrayList;
+import java.util.Arrays;
 import java.util.List;
 import java.util.Random;
 import java.util.concurrent.Callable;
@@ -46,7 +47,7 @@ public final class ModelTest {
             caught += test.model.caughtCount();
             states[test.model.state()]++;
         }
-        System.out.println(verified + " verified; " + caught + " caught; states at the end " + java.util.Arrays.toString(states));
+        System.out.println(verified + " verified; " + caught + " caught; states at the end " + Arrays.toString(states));
         Check.due("enough programs are verified", true, verified > PROGRAMS / 10);
         Check.due("enough is caught", true, caught > PROGRAMS / 100);
         for (int s = 0; s < states.length; s++) {

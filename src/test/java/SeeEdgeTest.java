@@ -17,14 +17,15 @@ public final class SeeEdgeTest {
         Check.sentence("10: (The one that traps, or finds no room, counts.)", SeeEdgeTest::lastStepCounts);
         Check.sentence("10: IllegalArgumentException if n is not 0 .. 100", SeeEdgeTest::runLimits);
         Check.sentence("11: 0 to 8, as said", SeeEdgeTest::states);
-        Check.sentence("12: The int that the first method gave, if it is done and gave one; else 0", SeeEdgeTest::results);
+        Check.sentence("12: The int that the first method gave, if it is done and gave one; else 0",
+                SeeEdgeTest::results);
         Check.sentence("13: How many frames there are", SeeEdgeTest::depths);
         Check.sentence("13: (0 if it is not running)", SeeEdgeTest::depthBehindTheEnd);
         Check.sentence("13: (So none of it is seen behind its end; statics and heap stay till the next start.)",
                 SeeEdgeTest::seenBehindTheEnd);
         Check.sentence("14: Of frame k, 0 being the latest", SeeEdgeTest::frameNumbers);
-        Check.sentence("14: 0: its method, 1: the place of its next instruction (of the call, if it is not the latest), "
-                + "2: how many are on its stack", SeeEdgeTest::frameParts);
+        Check.sentence("14: 0: its method, 1: the place of its next instruction (of the call, if it is not the "
+                + "latest), 2: how many are on its stack", SeeEdgeTest::frameParts);
         Check.sentence("14: NONE if there is no such frame or what", SeeEdgeTest::noSuchFrame);
         Check.sentence("15: Local n of the latest frame; 0 if there is none", SeeEdgeTest::localLimits);
         Check.sentence("16: What is k below the top of the latest frame's stack; 0 if there is none",
@@ -460,13 +461,13 @@ public final class SeeEdgeTest {
         }
     }
 
-    /** Methods 0, 1 and 2 push 1, 2 and 3 ints and call the next; 3 does not end. */
+    /** Methods 0, 1 and 2 push 1, 2 and 3 ints and call the next; 3 has two arguments and does not end. */
     private static FrameWalk tower() {
         FrameWalk x = Check.fed(3, 184, 0, 1, 177, 3, 3, 184, 0, 2, 177, 3, 3, 3, 184, 0, 3, 177, 3, 167, 0, 0);
         x.method(5, 0, 0, 1, false);
         x.method(6, 0, 1, 2, false);
         x.method(7, 0, 2, 3, false);
-        x.method(4, 0, 3, 4, false);
+        x.method(4, 2, 3, 4, false);
         x.verify();
         x.start(0);
         return x;
@@ -502,7 +503,8 @@ public final class SeeEdgeTest {
             int m = 3 - k;
             Check.due("method of frame " + k, m, x.frame(k, 0));
             Check.due("place of frame " + k, k == 0 ? 0 : m + 1, x.frame(k, 1));
-            Check.due("stack of frame " + k, k == 0 ? 0 : m + 1, x.frame(k, 2));
+            // The arguments of method 3 are not on its caller's stack any more.
+            Check.due("stack of frame " + k, new int[] {0, 1, 2, 1}[k], x.frame(k, 2));
         }
         x.run(1);
         Check.due("the latest goes on", 1, x.frame(0, 1));
@@ -563,7 +565,16 @@ public final class SeeEdgeTest {
         Check.due("behind it, local 0", 33, called.local(0));
         Check.due("behind it, local 1", 0, called.local(1));
         Check.due("behind it, local -1", 0, called.local(-1));
-        Check.due("not running", 0, new FrameWalk().local(0));
+        Check.due("new", 0, new FrameWalk().local(0));
+        FrameWalk ends = Check.verified(Check.one(2, 2, 2, false, 26, 27, 108, 177));
+        for (int second = 0; second <= 1; second++) {
+            Check.start(ends, 0, 33, second);
+            Check.due("started", 33, ends.local(0));
+            ends.run(100);
+            Check.due("not running", true, ends.state() > 1);
+            Check.due("not running: local 0", 0, ends.local(0));
+            Check.due("not running: local 1", 0, ends.local(1));
+        }
     }
 
     private static void stackLimits() {
@@ -593,7 +604,18 @@ public final class SeeEdgeTest {
         FrameWalk called = tower();
         called.run(2);
         Check.due("the latest frame's is empty", 0, called.stack(0));
-        Check.due("not running", 0, new FrameWalk().stack(0));
+        Check.due("new", 0, new FrameWalk().stack(0));
+        // It ends with 5 and 4 on the stack, or traps with 5 below.
+        FrameWalk ends = Check.verified(Check.one(1, 1, 3, false, 8, 7, 26, 108, 177));
+        for (int by = 0; by <= 1; by++) {
+            Check.start(ends, 0, by);
+            ends.run(2);
+            Check.due("running: the top", 4, ends.stack(0));
+            ends.run(100);
+            Check.due("not running", by == 0 ? 3 : 2, ends.state());
+            Check.due("not running: the top", 0, ends.stack(0));
+            Check.due("not running: below", 0, ends.stack(1));
+        }
     }
 
     private static void staticLimits() {
@@ -616,7 +638,8 @@ public final class SeeEdgeTest {
 
     /** An array of the argument whose first and last ints are 5, then one of none, then one of 1 with 4 in it. */
     private static FrameWalk arrays(int length) {
-        FrameWalk x = Check.fed(26, 188, 10, 76, 43, 26, 4, 100, 8, 79, 43, 3, 8, 79, 3, 188, 10, 87, 4, 188, 10, 3, 7, 79, 177);
+        FrameWalk x = Check.fed(26, 188, 10, 76, 43, 26, 4, 100, 8, 79, 43, 3, 8, 79, 3, 188, 10, 87);
+        Check.feed(x, 4, 188, 10, 3, 7, 79, 177);
         x.method(25, 1, 2, 4, false);
         x.verify();
         Check.start(x, 0, length);

@@ -75,8 +75,8 @@ public final class ShapeEdgeTest {
             Check.due(o + " with its byte", "1", verdictOf(8, 177, o, 0));
             Check.due(o + " without it", NO_SHAPE, verdictOf(8, 177, o));
         }
-        int[] words = {17, 132, 153, 154, 155, 156, 157, 158, 159, 160, 161, 162, 163, 164, 165, 166, 167, 178, 179, 184,
-            198, 199};
+        int[] words = {17, 132, 153, 154, 155, 156, 157, 158, 159, 160, 161, 162, 163, 164, 165, 166, 167, 178, 179,
+            184, 198, 199};
         for (int o : words) {
             Check.due(o + " with both", "1", verdictOf(8, 177, o, 0, 0));
             Check.due(o + " with one", NO_SHAPE, verdictOf(8, 177, o, 0));

@@ -10,7 +10,8 @@ public final class TellEdgeTest {
         Check.sentence("2: how many there are", TellEdgeTest::howMany);
         Check.sentence("2: IllegalStateException if there are 200", TellEdgeTest::fullOfBytes);
         Check.sentence("2: or it was verified", TellEdgeTest::feedWhenVerified);
-        Check.sentence("3: The next length bytes, from where the last method ends, are a method", TellEdgeTest::nextBytes);
+        Check.sentence("3: The next length bytes, from where the last method ends, are a method",
+                TellEdgeTest::nextBytes);
         Check.sentence("3: its number", TellEdgeTest::methodNumbers);
         Check.sentence("3: IllegalArgumentException if the numbers are not as said", TellEdgeTest::methodArguments);
         Check.sentence("3: or length is not 1 up to the bytes that are left", TellEdgeTest::methodLength);

@@ -14,6 +14,7 @@ public final class TermsEdgeTest {
         Check.sentence("PLACES in a method are counted from its first byte, 0", TermsEdgeTest::places);
         Check.sentence("Arguments are ints, locals 0, 1, ...", TermsEdgeTest::argumentsAreLocals);
         Check.sentence("STATICS are 8 ints, at first 0", TermsEdgeTest::statics);
+        Check.sentence("`NONE = -1`: Nothing there", () -> Check.due("NONE", -1, FrameWalk.NONE));
         Check.end("TermsEdgeTest");
     }
 
