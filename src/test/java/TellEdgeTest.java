@@ -544,11 +544,7 @@ public final class TellEdgeTest {
         }
         full.clear();
         asAtFirst("full", full);
-        // 0 167 to 4; 3 177; 4 3; 5 153 to 3; 8 87, which finds nothing.
-        FrameWalk refused = Check.fedMethod(1, 167, 0, 4, 177, 3, 153, 255, 254, 87, 177);
-        Check.due("refused", Check.ARGUMENT, () -> refused.verify());
-        refused.clear();
-        asAtFirst("refused", refused);
+        clearedWhenRefused();
         FrameWalk four = fedTimes(1);
         four.method(1, 0, 0, 1, false);
         for (int h = 0; h < 4; h++) {
@@ -564,6 +560,23 @@ public final class TellEdgeTest {
         twice.clear();
         twice.clear();
         asAtFirst("new", twice);
+    }
+
+    /** Verify stops at the pop, which finds nothing, while place 3 is still to be looked at: that is forgotten too. */
+    private static void clearedWhenRefused() {
+        for (int round = 0; round < 2; round++) {
+            // 0 167 to 4; 3 177; 4 3; 5 153 to 3; 8 87; 9 177.
+            FrameWalk x = Check.fedMethod(1, 167, 0, 4, 177, 3, 153, 255, 254, 87, 177);
+            Check.due("refused", Check.ARGUMENT, () -> x.verify());
+            x.clear();
+            if (round == 0) {
+                asAtFirst("refused", x);
+                continue;
+            }
+            Check.feed(x, 177, 177, 177, 87);
+            x.method(4, 0, 0, 1, false);
+            Check.due("nothing comes to place 3", "1", Check.verdict(x));
+        }
     }
 
     private static void asAtFirst(String what, FrameWalk x) {
